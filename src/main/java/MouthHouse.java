@@ -1353,7 +1353,7 @@ public final class MouthHouse {
         }
     }
 
-    /** BEST SEATINGS: seats are filled from the left, lower MEMBERS first, so that of several the first is the least. */
+    /** BEST SEATINGS: SEATS are filled from the left, lower MEMBERS first, so that of several the first is least. */
     private static final class Best {
         private static final int WISHES = 3;
         private static final int STEP_WORTH = 1000;
@@ -1362,10 +1362,11 @@ public final class MouthHouse {
         private Manners manners;
         private final int[] letters;
         private final int[] worths;
-        private int leastWorth;
+        private final int[] leastFrom;
         private final int[] order;
         private final int[] alive;
         private int allAlive;
+        private int mostRound;
         private boolean found;
         private int bestScore;
         private int bestDigits;
@@ -1378,6 +1379,7 @@ public final class MouthHouse {
             manners = null;
             letters = new int[Manners.LETTERS.length];
             worths = new int[MOST_MEMBERS * MOST_MEMBERS * MOST_MEMBERS];
+            leastFrom = new int[MOST_MEMBERS + 1];
             order = new int[MOST_MEMBERS];
             alive = new int[MOST_MEMBERS];
             isKept = new boolean[WISHES];
@@ -1439,6 +1441,7 @@ public final class MouthHouse {
                 fillWorths();
             }
             allAlive = Integer.bitCount(members.living());
+            mostRound = wish == 2 ? roundHope() : 0;
             found = false;
             place(wish, 0, 0, 0, 0);
             keptDigits[wish] = bestDigits;
@@ -1448,18 +1451,32 @@ public final class MouthHouse {
 
         /** WORTH hangs on two and a SEAT alone, so it is asked once for each such three, not in each SEATING. */
         private void fillWorths() {
-            leastWorth = 0;
+            Arrays.fill(leastFrom, 0);
+            for (int s = members.size - 1; s >= 0 && s < MOST_MEMBERS; s--) {
+                leastFrom[s] = leastFrom[s + 1] + (s > 0 ? fillWorthsAt(s) : 0);
+            }
+            // the ring's last pair is still to come whatever sits already
+            int closing = members.ring ? fillWorthsAt(0) : 0;
+            for (int s = 0; s < leastFrom.length; s++) {
+                leastFrom[s] += closing;
+            }
+        }
+
+        /** The least of them. */
+        private int fillWorthsAt(int seat) {
             boolean any = false;
+            int least = 0;
             for (int left = 0; left < members.size; left++) {
                 for (int right = 0; right < members.size; right++) {
-                    for (int s = members.ring ? 0 : 1; s < members.size && left != right; s++) {
-                        int worth = worthOf(left, right, s);
-                        worths[(left * MOST_MEMBERS + right) * MOST_MEMBERS + s] = worth;
-                        leastWorth = any ? Math.min(leastWorth, worth) : worth;
+                    int at = (left * MOST_MEMBERS + right) * MOST_MEMBERS + seat;
+                    if (left != right && at >= 0 && at < worths.length) {
+                        worths[at] = worthOf(left, right, seat);
+                        least = any ? Math.min(least, worths[at]) : worths[at];
                         any = true;
                     }
                 }
             }
+            return least;
         }
 
         private int keptWorth(int left, int right, int seat) {
@@ -1477,15 +1494,16 @@ public final class MouthHouse {
                 if ((used >> m & 1) != 0) {
                     continue;
                 }
-                int sum = score + gain(wish, seat, living, m);
                 order[seat] = m;
                 int more = living;
                 if (members.lives(m) && living >= 0 && living < MOST_MEMBERS) {
                     alive[living] = m;
                     more++;
                 }
-                if (!found || sum + hope(wish, seat + 1, more) > bestScore) {
-                    place(wish, seat + 1, used | 1 << m, more, sum);
+                int sum = score + gain(wish, seat, living, m);
+                int seated = used | 1 << m;
+                if (!found || sum + hope(wish, seat + 1, seated, more) > bestScore) {
+                    place(wish, seat + 1, seated, more, sum);
                 }
             }
         }
@@ -1506,19 +1524,23 @@ public final class MouthHouse {
             if (wish == 0) {
                 return seat > 0 && seat <= MOST_MEMBERS ? -keptWorth(order[seat - 1], member, seat) : 0;
             }
-            if (wish == 1 && members.lives(member) && living > 0 && living <= MOST_MEMBERS) {
-                return members.swallows(alive[living - 1], member) ? 0 : 1;
+            if (!members.lives(member)) {
+                return 0;
             }
-            return 0;
+            if (wish == 2) {
+                // in a row nobody who sits down later changes the ROUND
+                return member == 0 && !members.ring ? roundScore(living + 1) : 0;
+            }
+            return living > 0 && living <= MOST_MEMBERS && !members.swallows(alive[living - 1], member) ? 1 : 0;
         }
 
-        /** What the ring's last pair gives, and the ROUND, which is known only when all sit. */
+        /** What the ring's last pair gives, and its ROUND, which is known only when all sit. */
         private int lastGain(int wish, int seat, int living) {
-            if (wish == 2) {
-                return roundScore(living);
-            }
             if (!members.ring || seat < 1 || seat > MOST_MEMBERS) {
                 return 0;
+            }
+            if (wish == 2) {
+                return roundScore(living);
             }
             if (wish == 0) {
                 return -keptWorth(order[seat - 1], order[0], 0);
@@ -1530,12 +1552,47 @@ public final class MouthHouse {
         }
 
         /** The most that the SEATS yet to be filled, and the ring's last pair, can give. */
-        private int hope(int wish, int seat, int living) {
-            int closing = members.ring ? 1 : 0;
+        private int hope(int wish, int seat, int seated, int living) {
             if (wish == 0) {
-                return -leastWorth * (members.size - seat + closing);
+                return seat >= 0 && seat < leastFrom.length ? -leastFrom[seat] : 0;
             }
-            return wish == 1 ? allAlive - living + closing : Talk.MOST_STEPS * STEP_WORTH;
+            if (wish == 1) {
+                return allAlive - living + (members.ring ? 1 : 0);
+            }
+            return !members.ring && (seated & 1) != 0 ? 0 : mostRound;
+        }
+
+        /** No ROUND of MEMBER 0 can be better: all that hear pass it on, the quickest first. */
+        private int roundHope() {
+            int hearing = 0;
+            for (int m = 0; m < members.size; m++) {
+                hearing |= members.lives(m) && members.fact(KIND, m) != DEAF ? 1 << m : 0;
+            }
+            int others = hearing & ~1;
+            if (others == 0 || !members.lives(0)) {
+                return 0;
+            }
+            boolean comesBack = members.ring && hearing == members.living();
+            int steps = comesBack ? Talk.MOST_STEPS : Integer.bitCount(others);
+            int open = others;
+            int score = 0;
+            for (int step = 0; step < steps; step++) {
+                int mouth = open == 0 ? 0 : quickest(open);
+                open = open == 0 ? others : open & ~(1 << mouth);
+                score += STEP_WORTH - members.fact(DELAY, mouth);
+            }
+            return score;
+        }
+
+        private int quickest(int bits) {
+            int who = NONE;
+            for (int m = 0; m < members.size; m++) {
+                boolean may = (bits >> m & 1) != 0;
+                if (may && (who == NONE || members.fact(DELAY, m) < members.fact(DELAY, who))) {
+                    who = m;
+                }
+            }
+            return who;
         }
 
         private int roundScore(int living) {
@@ -1546,7 +1603,10 @@ public final class MouthHouse {
             int score = 0;
             for (int step = 0; step < Talk.MOST_STEPS && at >= 0 && at < MOST_MEMBERS; step++) {
                 int before = at > 0 || !members.ring ? at - 1 : living - 1;
-                if (before < 0 || before >= MOST_MEMBERS || before == at || members.swallows(alive[before], alive[at])) {
+                if (before < 0 || before >= MOST_MEMBERS || before == at) {
+                    return score;
+                }
+                if (members.swallows(alive[before], alive[at])) {
                     return score;
                 }
                 score += STEP_WORTH - members.fact(DELAY, alive[before]);
