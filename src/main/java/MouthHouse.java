@@ -831,7 +831,10 @@ public final class MouthHouse {
                 default:
                     value = right == 0 ? 0 : left / right;
             }
-            return (int) Math.max(-BOUND, Math.min(BOUND, value));
+            if (value > BOUND) {
+                return BOUND;
+            }
+            return value < -BOUND ? -BOUND : (int) value;
         }
     }
 
@@ -885,7 +888,7 @@ public final class MouthHouse {
         }
 
         private boolean has(int member) {
-            return member >= 0 && member < size;
+            return member >= 0 && member < size && member < MOST_MEMBERS;
         }
 
         private int fact(int item, int member) {
@@ -894,7 +897,7 @@ public final class MouthHouse {
         }
 
         private void tell(int item, int member, int value) {
-            if (has(member) && member < MOST_MEMBERS && item >= 0 && item < ITEMS) {
+            if (has(member) && item >= 0 && item < ITEMS) {
                 facts[item * MOST_MEMBERS + member] = value;
             }
         }
@@ -947,8 +950,9 @@ public final class MouthHouse {
             System.arraycopy(other.seats, 0, seats, 0, seats.length);
         }
 
-        private boolean has(int seat) {
-            return seat >= 0 && seat < size;
+        /** There are as many SEATS as MEMBERS, so it serves for both. */
+        private boolean has(int number) {
+            return number >= 0 && number < size && number < MOST_MEMBERS;
         }
 
         private int memberOn(int seat) {
@@ -960,7 +964,7 @@ public final class MouthHouse {
         }
 
         private void put(int member, int seat) {
-            if (has(member) && has(seat) && member < MOST_MEMBERS && seat < MOST_MEMBERS) {
+            if (has(member) && has(seat)) {
                 onSeat[seat] = member;
                 seats[member] = seat;
             }
@@ -1137,7 +1141,7 @@ public final class MouthHouse {
         private int lastYawn() {
             int last = 0;
             for (int m = 0; m < members.size; m++) {
-                last = Math.max(last, minutes[m]);
+                last = Math.max(last, yawnedAt(m));
             }
             return last;
         }
@@ -1145,7 +1149,7 @@ public final class MouthHouse {
         private int sleepy() {
             int bits = 0;
             for (int m = 0; m < members.size; m++) {
-                bits |= minutes[m] == NONE ? 1 << m : 0;
+                bits |= yawnedAt(m) == NONE ? 1 << m : 0;
             }
             return bits;
         }

@@ -262,6 +262,11 @@ public final class PromiseTests {
         faulty(1, "y:(!(!([v]=1)))?1", NONE);
         faulty(1, "y:!v=1&!v=1&!v=1&!v=1&!v=1&!v=1&!v=1?1", NONE);
         faulty(1, "y:[1]+[1]+[1]+[1]+[1]+[1]+[1]", NONE);
+        faulty(1, "y:v=1?[[[[[[1]]]]]]", NONE);
+        faulty(1, "y:v=1?[[[[[[[1]]]]]]]", 12);
+        faulty(1, "y:v=[[[[[[1]]]]]]&v=[[[[[[1]]]]]]?1", NONE);
+        faulty(1, "y:!v=[[[[[1]]]]]?1", NONE);
+        faulty(1, "y:!v=[[[[[[1]]]]]]?1", 10);
         faulty(1, "m;m", 0);
     }
 
@@ -473,6 +478,7 @@ public final class PromiseTests {
         due("odds(1)", x.odds(1), 5000);
         due("odds(2)", x.odds(2), 5000);
         due("odds(3)", x.odds(3), 0);
+        due("odds(8)", x.odds(8), 0);
         due("odds(2147483647)", x.odds(Integer.MAX_VALUE), 0);
         due("odds(-1)", x.odds(-1), NONE);
         promise = 15;
@@ -536,6 +542,7 @@ public final class PromiseTests {
         bribe("mk3;m", NONE, NONE);
         bribe("m;mv0b30;mk1v0b1;mv0b20", 50, 10);
         bribe("m;mv0b0;mv0b0;mv0b0", 0, 6);
+        bribe("r;mv0b1;mv0b3;m", 1, 1);
     }
 
     private static void yawns() {
@@ -609,6 +616,8 @@ public final class PromiseTests {
         ill("m;m", "y:8/4*2", 4);
         ill("m;m", "y:2+3*4", 14);
         ill("m;m", "y:[2+3]*4", 20);
+        ill("m;m", "y:" + "1+".repeat(78) + "11", 89);
+        ill("m;m", "y:v=2?1;".repeat(19) + "y:v=1?7", 7);
         ill("m;m", "y:s=9?5", 0);
         ill("m;m", "y:s=1?5;y:6", 5);
         ill("m;m", "y:s<1?5;y:s>1?6;y:7;y:8", 7);
@@ -653,6 +662,12 @@ public final class PromiseTests {
         due("best(2, 1)", full.best(2, 1), 5994);
         due("best(1, 1)", full.best(1, 1), 6);
         due("the most words in a ring", house("r;m;mk3;m;m").best(1, 1), 3);
+        due("the most words of seven in a ring", house("r;m;m;m;m;m;m;m").best(1, 1), 7);
+        due("of two in a ring", house("r;m;m").best(1, 1), 2);
+        due("of one that is not dead in a ring", house("r;m;mk1").best(1, 1), 0);
+        // 1 must not hear 0 nor 0 hear 1, in a ring of four they sit across
+        due("best(1, 0)", house("r;mn1;mn0;m;m").best(1, 0), 213);
+        due("best(0, 0)", house("r;mn1;mn0;m;m").best(0, 0), 213);
     }
 
     private static void change(String text, int fewest, int seating) {
@@ -681,6 +696,10 @@ public final class PromiseTests {
         change("mk1;mk3", 0, 1);
         change("r;m;m", 0, 1);
         change("mk3;m;m;m;m;m;m", 6, 1234560);
+        MouthHouse last = house("m;m;m;m;m;m;mk3");
+        last.sit(6543210);
+        due("changes(0) of seven", last.changes(0), 6);
+        due("changes(1) of seven", last.changes(1), 5432106);
         MouthHouse x = house("mk3;m;m");
         x.sit(201);
         due("changes(0)", x.changes(0), 1);
@@ -727,6 +746,14 @@ public final class PromiseTests {
         due("a 21st", many.know(0, true), NONE);
         due("fits(-1)", many.fits(-1), 2);
         due("sure(true)", many.sure(true), 2);
+        promise = 24;
+        many = house("r;m;m");
+        many.know(0, true);
+        many.know(1, false);
+        due("all KNOWN", many.fits(-1), 1);
+        due("fits(0)", many.fits(0), 2);
+        due("fits(1)", many.fits(1), NONE);
+        due("all rows of seven", house("m;m;m;m;m;m;m").fits(-1), 128);
         MouthHouse both = house("r;m;m");
         both.know(1, true);
         both.know(1, false);
@@ -751,6 +778,8 @@ public final class PromiseTests {
             due("sitting()", x.sitting(), yes[i]);
         }
         promise = 28;
+        due("sat(0, 0)", x.sat(0, 0), 1);
+        due("sat(0, 1)", x.sat(0, 1), 0);
         due("sat(2, 0)", x.sat(2, 0), 2);
         due("sat(2, 1)", x.sat(2, 1), 1);
         due("sat(3, 1)", x.sat(3, 1), 0);
