@@ -461,7 +461,7 @@ public final class MouthHouse {
             draft.clear();
             tape.rewind();
             boolean isRead = readClause();
-            while (isRead && tape.at < tape.length && tape.pass(';')) {
+            for (int clauses = 1; isRead && clauses < Tape.MOST_BYTES && tape.pass(';'); clauses++) {
                 isRead = readClause();
             }
             if (!isRead || tape.next() != Tape.END || draft.size < LEAST_MEMBERS) {
@@ -549,7 +549,7 @@ public final class MouthHouse {
             size = 0;
             tape.rewind();
             boolean isRead = readClause();
-            while (isRead && tape.at < tape.length && tape.pass(';')) {
+            for (int clauses = 1; isRead && clauses < Tape.MOST_BYTES && tape.pass(';'); clauses++) {
                 isRead = readClause();
             }
             return isRead && tape.next() == Tape.END ? NONE : tape.at;
@@ -599,8 +599,7 @@ public final class MouthHouse {
             if (!readTruth(depth, begun)) {
                 return false;
             }
-            while (tape.at < tape.length && tape.next() == '|') {
-                tape.step();
+            for (int more = 0; more < Tape.MOST_BYTES && tape.pass('|'); more++) {
                 if (!readTruth(depth, false)) {
                     return false;
                 }
@@ -613,8 +612,7 @@ public final class MouthHouse {
             if (!readUnit(depth, begun)) {
                 return false;
             }
-            while (tape.at < tape.length && tape.next() == '&') {
-                tape.step();
+            for (int more = 0; more < Tape.MOST_BYTES && tape.pass('&'); more++) {
                 if (!readUnit(depth, false)) {
                     return false;
                 }
@@ -666,8 +664,11 @@ public final class MouthHouse {
             if (!readTerm(depth)) {
                 return false;
             }
-            while (tape.at < tape.length && (tape.next() == '+' || tape.here() == '-')) {
-                int sign = tape.here();
+            for (int more = 0; more < Tape.MOST_BYTES; more++) {
+                int sign = tape.next();
+                if (sign != '+' && sign != '-') {
+                    return true;
+                }
                 tape.step();
                 if (!readTerm(depth)) {
                     return false;
@@ -681,8 +682,11 @@ public final class MouthHouse {
             if (!readAtom(depth)) {
                 return false;
             }
-            while (tape.at < tape.length && (tape.next() == '*' || tape.here() == '/')) {
-                int sign = tape.here();
+            for (int more = 0; more < Tape.MOST_BYTES; more++) {
+                int sign = tape.next();
+                if (sign != '*' && sign != '/') {
+                    return true;
+                }
                 tape.step();
                 if (!readAtom(depth)) {
                     return false;
