@@ -104,6 +104,15 @@ public final class BestEdgeTests extends Edge {
                 }
             }
         }
+        // each sign's truth is as good as another's
+        for (String one : new String[] {"1=1", "1<2", "2>1", "!1=2", "(1=1)", "(1<2|1=1)", "!(2<1&1=1)"}) {
+            for (String other : new String[] {"1=1", "1<2", "2>1", "!1=2", "(2>1)", "(1<2|1=1)", "!(2<1&1=1)"}) {
+                worth("y:" + one + "&" + other + "?1;y:2", 1);
+                worth("y:!(" + one + "&" + other + ")?1;y:2", 2);
+                worth("y:" + one + "&!" + other + "?1;y:2", 2);
+                worth("y:!" + one + "|" + other + "?1;y:2", 1);
+            }
+        }
         worth("y:!!!!!!1=1?1;y:2", 1);
         worth("y:!!!!!1=1?1;y:2", 2);
         worth("y:((((((1=1))))))?[[[[[[7]]]]]];y:2", 7);

@@ -15,6 +15,7 @@ public final class SittingEdgeTests extends Edge {
         images();
         imageEdges();
         goingBack();
+        sittingsAgain();
         refusedBacks();
         counts();
         counted();
@@ -320,6 +321,12 @@ public final class SittingEdgeTests extends Edge {
         x.seed(1234);
         due("back()", x.back(), 1);
         due("SEATS", x.count(4), 201);
+        int[] seats = {1, 2, 0};
+        int[] mouths = {2, 0, NONE};
+        for (int m = 0; m < 3; m++) {
+            member(x, m, 7, seats[m]);
+            member(x, m, 8, mouths[m]);
+        }
         member(x, 0, 0, 1);
         member(x, 1, 0, 0);
         member(x, 1, 3, 2);
@@ -372,6 +379,43 @@ public final class SittingEdgeTests extends Edge {
         }
         due("a 41st", full.sitting(), NONE);
         due("undo()", full.undo(), 39);
+    }
+
+    private static void sittingsAgain() {
+        sentence(0, "BACK: they are so again");
+        MouthHouse x = house("me50;m;m");
+        x.seed(3);
+        int[] yes = new int[5];
+        int[] passed = new int[5];
+        for (int i = 0; i < 5; i++) {
+            x.set(1, 0, i % 2);
+            yes[i] = x.sitting();
+            passed[i] = x.sat(i, 1);
+        }
+        x.image();
+        for (int i = 4; i >= 0; i--) {
+            due("undo()", x.undo(), i);
+        }
+        // others in their place, which came out in another way
+        x.seed(4444);
+        x.set(1, 0, 0);
+        x.set(2, 0, 0);
+        for (int i = 0; i < 9; i++) {
+            x.sitting();
+        }
+        due("back()", x.back(), 5);
+        for (int i = 0; i < 5; i++) {
+            due("sat(" + i + ", 0)", x.sat(i, 0), yes[i]);
+            due("sat(" + i + ", 1)", x.sat(i, 1), passed[i]);
+        }
+        due("count(8)", x.count(8), passed[0] + passed[1] + passed[2] + passed[3] + passed[4]);
+        due("some are yes of both, some not", yes[0] + yes[1] + yes[2] + yes[3] + yes[4] > 2, true);
+        for (int i = 4; i >= 0; i--) {
+            due("undo()", x.undo(), i);
+            x.set(1, 0, i % 2);
+            due("draws ahead of each", x.sitting(), yes[i]);
+            due("undo()", x.undo(), i);
+        }
     }
 
     private static void refusedBacks() {

@@ -138,6 +138,9 @@ public final class VoteEdgeTests extends Edge {
         asks("me20;me21;m", "more by the second", x -> x.turner(), 2);
         asks("me21;me20;m", "more by the first", x -> x.turner(), 1);
         sentence(0, "(0 there) the parts by which what comes out PASSES just as without ERRORS (PASSED or not) are most");
+        // no ERROR at all: none is worse off without its own, though a no could turn it and the yes could not
+        asks("m;mv0;mv0;m", "0 there", x -> x.turner(), 1);
+        asks("m;mv0;m;m", "0 there", x -> x.turner(), 1);
         // 1 yes by 10, 2 no by 40: half is not PASSED; only 2's ERROR could make it so
         asks("me10;me40;mv0", "not PASSED", x -> x.turner(), 2);
         asks("me40;me10;mv0", "not PASSED, 2's ERROR small", x -> x.turner(), 2);
@@ -320,6 +323,10 @@ public final class VoteEdgeTests extends Edge {
         x.sit(210);
         due("another SEATING", x.sure(true), 2);
         due("another SEATING", x.sure(false), 1);
+        x.sit(102);
+        due("another SEATING", x.sure(true), 1);
+        due("another SEATING", x.sure(false), 4);
+        x.sit(210);
         x.set(0, 1, 1);
         due("one dies, nothing comes there", x.fits(NONE), 0);
         x.set(0, 1, 0);
