@@ -34,6 +34,12 @@ public final class SearchTests extends Edge {
         sentenceByDraws(random);
         sentence(22, "CHANGES: how many (0), the SEATING (1).");
         farChanges();
+        for (int i = 0; i < 40; i++) {
+            new SearchTests(hostile(random, 4 + i % 2), "").compareManyChanges(random, 120);
+        }
+        for (int i = 0; i < 10; i++) {
+            new SearchTests(hostile(random, 6 + i % 2), "").compareManyChanges(random, 30);
+        }
         close();
     }
 
@@ -58,6 +64,18 @@ public final class SearchTests extends Edge {
                 one.compareChanges(seating);
             }
         }
+    }
+
+    /** Nearly all have enemies, and mostly one is deaf, so that few SEATINGS will do. */
+    private static String hostile(Random random, int many) {
+        boolean ring = random.nextInt(4) == 0;
+        int deaf = ring ? NONE : random.nextInt(many + 1);
+        StringBuilder house = new StringBuilder(ring ? "r" : "");
+        for (int m = 0; m < many; m++) {
+            house.append(house.length() > 0 ? ";m" : "m").append(random.nextInt(8) > 0 ? "n" + random.nextInt(many) : "");
+            house.append(m == deaf ? "k3" : "");
+        }
+        return house.toString();
     }
 
     private static String drawn(Random random, int many) {
@@ -104,6 +122,14 @@ public final class SearchTests extends Edge {
             due(call, x.best(wish, 1), wish == 0 ? -bestScore[wish] : bestScore[wish]);
         }
         compareChanges(x.count(4));
+    }
+
+    /** From every SEATING, or from so many drawn ones. */
+    private void compareManyChanges(Random random, int most) {
+        judgeAll();
+        for (int i = 0; i < Math.min(most, seatings.size()); i++) {
+            compareChanges(seatings.get(most < seatings.size() ? random.nextInt(seatings.size()) : i));
+        }
     }
 
     private void judgeAll() {
