@@ -79,14 +79,14 @@ class Edge {
         due(call, got ? 1 : 0, want ? 1 : 0);
     }
 
-    static int feed(MouthHouse x, String text) {
-        int has = x.count(3);
+    static int feed(MouthHouse house, String text) {
+        int has = house.count(3);
         for (int from = 0; from < text.length(); from += 20) {
             int[] five = new int[5];
             for (int i = 0; i < 20 && from + i < text.length(); i++) {
                 five[i / 4] |= text.charAt(from + i) << 24 - i % 4 * 8;
             }
-            has = x.feed(five[0], five[1], five[2], five[3], five[4]);
+            has = house.feed(five[0], five[1], five[2], five[3], five[4]);
         }
         return has;
     }
